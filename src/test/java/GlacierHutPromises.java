@@ -44,6 +44,7 @@ public final class GlacierHutPromises {
         promise17And18Snapshot();
         promise19Undo();
         promise19WhatIsRecorded();
+        promise19All();
         promise20And21Text();
         promise22Forms();
         promise22Fault();
@@ -892,9 +893,130 @@ public final class GlacierHutPromises {
         x.undo();
         due("undo of a play", x.count(4), 0);
         due("undo leaves the text", x.count(13), 3);
+        x = with(7, 0, 1);
+        x.book(3, 0, 1);
+        x.storm(1, 1);
+        due("sleep(2)", x.sleep(2), 3);
+        due("count(9)", x.count(9), 1);
+        x.undo();
+        due("undo of hungry guests", x.count(8), 0);
+        due("undo of cold nights", x.count(9), 0);
+        x = new GlacierHut();
         int before = x.count(12);
         x.clear(300);
         due("count(12), a clearing that finds no storm is a change", x.count(12), Math.min(4, before + 1));
+    }
+
+    private static void promise19All() {
+        part = "promises 18 and 19, all of the state";
+        int changes = 8;
+        for (int i = 0; i < changes; i++) {
+            GlacierHut x = lived();
+            String before = looks(x);
+            change(x, i);
+            String behind = looks(x);
+            due("change " + i + " is none", before.equals(behind) ? 1 : 0, 0);
+            x.undo();
+            due("undo of change " + i, looks(x).equals(before) ? 1 : 0, 1);
+            x.keep();
+            change(x, i);
+            x.sleep(9);
+            x.load(1, 5, 5);
+            x.restore();
+            due("restore behind change " + i, looks(x).equals(before) ? 1 : 0, 1);
+            x.undo();
+            x.undo();
+            x.undo();
+            due("undo of all behind change " + i, looks(x).equals(behind) ? 1 : 0, 1);
+        }
+        GlacierHut x = new GlacierHut();
+        for (int value = 1; value <= 8; value++) {
+            x.set(3, value);
+        }
+        for (int i = 3; i >= 0; i--) {
+            due("undo to " + i, x.undo(), i);
+            due("the setting then", x.count(23), i + 4);
+        }
+    }
+
+    /** A hut in which all that can be is there: kept, lapsed and hungry guests, cold nights, spoilt lots. */
+    private static GlacierHut lived() {
+        GlacierHut x = new GlacierHut();
+        x.set(3, 9);
+        x.load(0, 13, 9);
+        x.load(1, 9, 1);
+        x.load(2, 1, 9);
+        x.fly();
+        x.book(4, 0, 1);
+        x.storm(1, 2);
+        x.sleep(3);
+        x.load(0, 40, 20);
+        x.load(1, 30, 9);
+        x.load(2, 20, 90);
+        x.load(1, 30, 4);
+        x.fly();
+        x.book(5, 3, 2);
+        x.book(2, 4, 1);
+        x.cancel(2);
+        x.book(2, 5, 1);
+        x.storm(6, 1);
+        x.sleep(1);
+        x.load(2, 8, 8);
+        x.load(0, 7, 3);
+        return x;
+    }
+
+    private static void change(GlacierHut x, int which) {
+        switch (which) {
+            case 0:
+                due("load", x.load(1, 3, 3), 3);
+                break;
+            case 1:
+                due("fly", x.fly(), 2);
+                break;
+            case 2:
+                due("book", x.book(1, 8, 1), 4);
+                break;
+            case 3:
+                due("cancel", x.cancel(3), 0);
+                break;
+            case 4:
+                due("storm", x.storm(4, 3), 3);
+                break;
+            case 5:
+                due("clear", x.clear(6), 1);
+                break;
+            case 6:
+                due("sleep", x.sleep(4), 0);
+                break;
+            default:
+                due("set", x.set(1, 3), 2);
+                break;
+        }
+    }
+
+    /** All that a hut tells, but of the history, the text and the snapshot. */
+    private static String looks(GlacierHut x) {
+        StringBuilder all = new StringBuilder();
+        for (int i = 0; i < 24; i++) {
+            if (i < 12 || i > 14) {
+                all.append(x.count(i)).append(' ');
+            }
+        }
+        for (int kind = 0; kind < 3; kind++) {
+            for (int i = 0; i < 6; i++) {
+                all.append(x.storeOf(kind, i)).append(' ').append(x.lotOf(kind, i, 0)).append(' ')
+                    .append(x.lotOf(kind, i, 1)).append(' ');
+            }
+            all.append(x.outOn(kind)).append(' ');
+        }
+        for (int party = 0; party < x.count(0); party++) {
+            for (int i = 0; i < 7; i++) {
+                all.append(x.partyOf(party, i)).append(' ');
+            }
+            all.append(x.goneOn(party)).append(' ');
+        }
+        return all.toString();
     }
 
     private static void drain(GlacierHut x, int states) {
