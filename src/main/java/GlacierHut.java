@@ -22,7 +22,7 @@ public final class GlacierHut {
         snapshot = new Hut();
         history = new History();
         text = new Text();
-        rehearsal = new Rehearsal(trial);
+        rehearsal = new Rehearsal();
         kept = false;
     }
 
@@ -167,7 +167,8 @@ public final class GlacierHut {
         }
         // a greater party may be taken where a smaller one is not: it can make soup scarce and rations small
         for (int size = Parties.GREATEST; size >= 1; size--) {
-            if (trial.wouldSuffice(now, size, day, nights)) {
+            trial.copyFrom(now);
+            if (trial.wouldSuffice(size, day, nights)) {
                 return size;
             }
         }
@@ -339,7 +340,8 @@ public final class GlacierHut {
             if (!mayBeBooked(size, from, nights)) {
                 return INVALID_ARGUMENT;
             }
-            if (!trial.wouldSuffice(this, size, from, nights)) {
+            trial.copyFrom(this);
+            if (!trial.wouldSuffice(size, from, nights)) {
                 return NOT_POSSIBLE;
             }
             if (parties.number >= Parties.LIMIT) {
@@ -349,9 +351,8 @@ public final class GlacierHut {
             return parties.number - 1;
         }
 
-        /** Turns this hut into what would be if the booking were taken in the other one. */
-        boolean wouldSuffice(Hut other, int size, int from, int nights) {
-            copyFrom(other);
+        /** Turns this hut into what would be if the booking were taken; returns whether all of it suffices. */
+        boolean wouldSuffice(int size, int from, int nights) {
             parties.add(size, from, nights);
             for (int i = 0; i < NIGHTS_AHEAD && parties.anyAwaited(); i++) {
                 if (!passNight()) {
@@ -938,9 +939,9 @@ public final class GlacierHut {
         int reason;
         int cause;
 
-        Rehearsal(Hut trial) {
-            this.hut = new Hut();
-            this.trial = trial;
+        Rehearsal() {
+            hut = new Hut();
+            trial = new Hut();
         }
 
         void run(Text text, Hut start) {
